@@ -164,7 +164,8 @@ public final class OrderedVersions {
         return Math.min(one.keys[place], two.keys[place]);
     }
 
-    public int open(int version, int key, boolean down) throws IndexOutOfBoundsException, UnsupportedOperationException {
+    public int open(int version, int key, boolean down)
+        throws IndexOutOfBoundsException, UnsupportedOperationException {
         Row row = versionAt(version);
         int number = trails.freeNumber();
         if (number == NONE) {

@@ -479,7 +479,10 @@ public final class PromisesTest {
         x.close(2);
         Check.due("open takes the least number", x.open(0, 40, true), 2);
         Check.due("open anew", x.next(2), 40);
+        Check.due("open anew goes down", x.next(2), 30);
         Check.due("open takes the next number", x.open(0, 40, false), 5);
+        Check.due("open anew upward", x.next(5), 40);
+        Check.due("open anew goes up", x.next(5), 50);
     }
 
     private static void promise19OpenGoesOverTheMapAsItWas() {
