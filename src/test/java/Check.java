@@ -11,17 +11,27 @@ final class Check {
     static final Class<?> TOO_MANY = UnsupportedOperationException.class;
     static final Class<?> BAD_ARGUMENT = IllegalArgumentException.class;
 
+    private static String test = "";
     private static int checks = 0;
     private static int wrong = 0;
 
     private Check() {
     }
 
+    /** The test that what comes is a part of. */
+    static void about(String name) {
+        test = name + ": ";
+    }
+
+    static int count() {
+        return checks;
+    }
+
     static void same(String what, Object got, Object due) {
         checks++;
         if (!due.equals(got)) {
             wrong++;
-            System.out.println(what + ": got " + got + ", due is " + due);
+            System.out.println(test + what + ": got " + got + ", due is " + due);
         }
     }
 
