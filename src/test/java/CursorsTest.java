@@ -57,7 +57,7 @@ public final class CursorsTest {
         }
     }
 
-    @Says(promise = 19, words = "A cursor on a version, before the least key that is not below an int, or (down) the greatest one that is not above it")
+    @Says(promise = 19, words = "the least key that is not below an int, or (down) the greatest one that is not above it")
     static void promise19_atTheLeastAndTheGreatestInt() {
         OrderedVersions x = Sample.ends();
         x.open(0, LEAST, false);

@@ -15,8 +15,8 @@ public final class DocumentTest {
     private static final Pattern HEADING = Pattern.compile("## (?:Promise (\\d+): .*|Terms|What it is)");
     // Not the two full stops of "0 .. 600".
     private static final String END_OF_SENTENCE = "(?<=[A-Za-z0-9)])\\.(?:\\s+|$)";
-    private static final Class<?>[] TESTS = {TermsTest.class, ChangesTest.class, SnapshotsTest.class,
-        QuestionsTest.class, CursorsTest.class, AstrayTest.class};
+    private static final Class<?>[] TESTS = {TermsTest.class, RefusalsTest.class, ChangesTest.class,
+        SnapshotsTest.class, QuestionsTest.class, CursorsTest.class, AstrayTest.class};
 
     private DocumentTest() {
     }
@@ -65,12 +65,12 @@ public final class DocumentTest {
         Says says = test.getAnnotation(Says.class);
         boolean quoted = sentences.getOrDefault(says.promise(), List.of()).stream()
             .anyMatch(sentence -> sentence.contains(says.words()));
-        Check.due(test.getName() + " quotes «" + says.words() + "» from the document", quoted, true);
+        Check.due(test.getName() + " quotes '" + says.words() + "' from the document", quoted, true);
     }
 
     private static void hasATest(int promise, String sentence, List<Method> tests) {
         boolean tested = tests.stream().map(test -> test.getAnnotation(Says.class))
             .anyMatch(says -> says.promise() == promise && sentence.contains(says.words()));
-        Check.due("promise " + promise + ", «" + sentence + "» has a test", tested, true);
+        Check.due("promise " + promise + ", '" + sentence + "' has a test", tested, true);
     }
 }

@@ -36,16 +36,21 @@ public final class ModelTest {
         return (int) ((seed >>> 33) % bound);
     }
 
+    /** Now and then an edge of the ints instead, as no argument is safe from them. */
+    private int orEdge(int number) {
+        return below(12) == 0 ? EDGES[below(EDGES.length)] : number;
+    }
+
     private int key() {
-        return below(12) == 0 ? EDGES[below(EDGES.length)] : below(span) - span / 3;
+        return orEdge(below(span) - span / 3);
     }
 
     private int version() {
-        return below(15) - 1;
+        return orEdge(below(15) - 1);
     }
 
     private int cursor() {
-        return below(10) - 1;
+        return orEdge(below(10) - 1);
     }
 
     private void step(String at) {
@@ -76,7 +81,7 @@ public final class ModelTest {
     }
 
     private void load(String at, int first, int more) {
-        int step = below(8) == 0 ? EDGES[below(EDGES.length)] : below(5);
+        int step = orEdge(below(5));
         int n = below(6) == 0 ? below(604) - 1 : below(40);
         int times = key();
         hold(at + "load " + first + " " + step + " " + n + " " + times + " " + more,
@@ -88,7 +93,7 @@ public final class ModelTest {
         int w = version();
         int a = key();
         int b = key();
-        int r = below(span) - 2;
+        int r = orEdge(below(span) - 2);
         boolean above = below(2) == 0;
         switch (kind) {
             case 14 -> hold(at + "size " + v, () -> real.size(v), () -> model.at(v).size());
@@ -112,7 +117,7 @@ public final class ModelTest {
         int c = cursor();
         int v = version();
         int a = key();
-        int n = below(9) - 1;
+        int n = orEdge(below(9) - 1);
         boolean down = below(2) == 0;
         switch (kind) {
             case 24, 25 -> hold(at + "open " + v + " " + a + " " + down,

@@ -262,7 +262,7 @@ public final class QuestionsTest {
         }
     }
 
-    @Says(promise = 14, words = "The greatest key that is not above an int, or (on above) the least one that is not below it")
+    @Says(promise = 14, words = "key that is not above an int, or (on above) the least one that is not below it")
     static void promise14_atTheLeastAndTheGreatestInt() {
         OrderedVersions x = Sample.ends();
         Check.due("least, below", x.near(0, LEAST, false), LEAST);
@@ -273,7 +273,7 @@ public final class QuestionsTest {
         Check.due("over 0, above", x.near(0, 1, true), MOST);
     }
 
-    @Says(promise = 14, words = "The greatest key that is not above an int, or (on above) the least one that is not below it")
+    @Says(promise = 14, words = "key that is not above an int, or (on above) the least one that is not below it")
     static void promise14_eachVersionHasItsOwn() {
         OrderedVersions x = moved();
         Check.due("now, below", x.near(0, 25, false), 10);

@@ -52,15 +52,15 @@ final class Sample {
         return text.toString().trim();
     }
 
-    /** The keys that a cursor still goes over; the cursor is at the end then. */
+    /** The keys that a cursor still goes over, and what else than its end stops it; it is at the end then. */
     static String rest(OrderedVersions x, int cursor) {
         StringBuilder text = new StringBuilder();
-        String key = Check.outcome(() -> x.next(cursor));
-        while (!key.equals("NoSuchElementException")) {
-            text.append(key).append(' ');
-            key = Check.outcome(() -> x.next(cursor));
+        String step = Check.outcome(() -> x.next(cursor));
+        for (int steps = 0; steps < 400 && !step.endsWith("Exception"); steps++) {
+            text.append(step).append(' ');
+            step = Check.outcome(() -> x.next(cursor));
         }
-        return text.toString().trim();
+        return text.append(step).toString().replaceFirst(" ?NoSuchElementException$", "");
     }
 
     /** FIVE as versions 0, 1, 2 and 4 and under cursors 0, 1 and 3; snapshot 3 and cursor 2 are gone. */

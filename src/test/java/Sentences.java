@@ -18,7 +18,7 @@ final class Sentences {
 
     static void run(Class<?> tests) throws IllegalAccessException {
         for (Method test : testsOf(tests)) {
-            Check.about(test.getName() + " («" + test.getAnnotation(Says.class).words() + "»)");
+            Check.about(test.getName() + " ('" + test.getAnnotation(Says.class).words() + "')");
             int before = Check.count();
             try {
                 test.invoke(null);

@@ -9,13 +9,14 @@ final class Twins {
         this.past = past;
     }
 
-    /** Every map of the object is full, and so are its numbers: the 12 snapshots and the 8 cursors. */
+    /** All that can be full is, and no map is as another one: the present map has 1, 3 .. 1199. */
     static OrderedVersions fullOfAll() {
-        OrderedVersions x = Sample.full();
+        OrderedVersions x = new OrderedVersions();
         for (int i = 0; i < 12; i++) {
-            x.put(i, -i);
+            x.load(i, 2, 600, 1, 1000 * i);
             x.snapshot();
         }
+        x.load(1, 2, 600, -1, 0);
         for (int i = 0; i < 8; i++) {
             x.open(i, 100 * i, i % 2 == 1);
         }
@@ -51,10 +52,8 @@ final class Twins {
     private static String tale(OrderedVersions x) {
         StringBuilder text = new StringBuilder("astray " + x.astray());
         for (int version = 0; version <= 12; version++) {
-            int number = version;
-            text.append("; version ").append(version).append(' ').append(Check.outcome(() -> x.size(number)));
+            text.append("; version ").append(version).append(mapTale(x, version));
         }
-        text.append(mapTale(x, 0)).append(mapTale(x, 1)).append(mapTale(x, 3));
         for (int cursor = 0; cursor < 8; cursor++) {
             text.append("; cursor ").append(cursor).append(cursorTale(x, cursor));
         }
@@ -63,16 +62,18 @@ final class Twins {
         return text.toString();
     }
 
+    /** Eight keys, spread over all, stand for the rest: an object is promised for 512 calls alone. */
     private static String mapTale(OrderedVersions x, int version) {
-        StringBuilder text = new StringBuilder("; map " + version + " sum " + x.sum(version, Sample.LEAST, Sample.MOST));
-        int size = x.size(version);
-        for (int i = 0; i < 20; i++) {
-            int rank = size < 20 ? i : i * (size - 1) / 19;
-            String key = Check.outcome(() -> x.select(version, rank));
-            text.append(' ').append(key);
-            if (rank < size) {
-                text.append('=').append(x.get(version, Integer.parseInt(key)));
-            }
+        String size = Check.outcome(() -> x.size(version));
+        StringBuilder text = new StringBuilder(" of " + size);
+        if (size.endsWith("Exception")) {
+            return text.toString();
+        }
+        text.append(", sum ").append(x.sum(version, Sample.LEAST, Sample.MOST));
+        int last = Integer.parseInt(size) - 1;
+        for (int i = 0; i <= Math.min(7, last); i++) {
+            int key = x.select(version, last < 8 ? i : i * last / 7);
+            text.append(' ').append(key).append('=').append(x.get(version, key));
         }
         return text.toString();
     }
