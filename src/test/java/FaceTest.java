@@ -1,48 +1,26 @@
+import java.io.IOException;
 import java.lang.reflect.Constructor;
 import java.lang.reflect.Field;
 import java.lang.reflect.Method;
 import java.lang.reflect.Modifier;
+import java.nio.file.Files;
+import java.nio.file.Path;
 import java.util.Arrays;
 import java.util.Set;
 import java.util.TreeSet;
+import java.util.regex.Matcher;
+import java.util.regex.Pattern;
 import java.util.stream.Collectors;
 
 /** The public face as the document writes it, and what rules 1 and 5 of LANGUAGE.md say of members. */
 public final class FaceTest {
-    private static final String INDEX = " throws IndexOutOfBoundsException";
-    private static final String ELEMENT = " throws NoSuchElementException";
-    private static final String MANY = " throws UnsupportedOperationException";
-    private static final String ARGUMENT = " throws IllegalArgumentException";
-    private static final String[] FACE = {
-        "boolean put(int,int)" + MANY,
-        "int remove(int)" + ELEMENT,
-        "int load(int,int,int,int,int)" + ARGUMENT,
-        "int cut(int,int)",
-        "int merge(int)" + INDEX + MANY,
-        "int snapshot()" + MANY,
-        "int release(int)" + INDEX,
-        "int restore(int)" + INDEX,
-        "int size(int)" + INDEX,
-        "int get(int,int)" + INDEX + ELEMENT,
-        "int rank(int,int)" + INDEX,
-        "int select(int,int)" + INDEX + ELEMENT,
-        "int near(int,int,boolean)" + INDEX + ELEMENT,
-        "long sum(int,int,int)" + INDEX,
-        "int greatest(int,int,int)" + INDEX + ELEMENT,
-        "int differs(int,int)" + INDEX,
-        "int firstDifference(int,int)" + INDEX + ELEMENT,
-        "int open(int,int,boolean)" + INDEX + MANY,
-        "int next(int)" + INDEX + ELEMENT,
-        "int skip(int,int)" + INDEX + ARGUMENT,
-        "int peek(int)" + INDEX + ELEMENT,
-        "int close(int)" + INDEX,
-        "int astray()",
-    };
+    private static final Path DOCUMENT = Path.of("../shared/DOC.md");
+    private static final Pattern METHOD = Pattern.compile("    public (\\w+ \\w+)\\((.*?)\\)(?: throws (.*))?;");
 
     private FaceTest() {
     }
 
-    public static void main(String[] args) {
+    public static void main(String[] args) throws IOException {
         Class<?> face = OrderedVersions.class;
         Check.due("public and final", face.getModifiers(), Modifier.PUBLIC | Modifier.FINAL);
         constructors(face);
@@ -63,7 +41,7 @@ public final class FaceTest {
         Check.same("constructor", all[0].toString(), "public OrderedVersions()");
     }
 
-    private static void methods(Class<?> face) {
+    private static void methods(Class<?> face) throws IOException {
         Set<String> seen = new TreeSet<>();
         Set<String> openNames = new TreeSet<>();
         Set<String> hiddenNames = new TreeSet<>();
@@ -76,17 +54,33 @@ public final class FaceTest {
                 seen.add(written(method));
             }
         }
-        Check.same("methods", seen, new TreeSet<>(Arrays.asList(FACE)));
+        Check.same("methods", seen, ofTheDocument());
         hiddenNames.retainAll(openNames);
         Check.same("private methods with a public one's name", hiddenNames, Set.of());
     }
 
+    /** As written(method) would tell them: without the names of parameters. */
+    private static Set<String> ofTheDocument() throws IOException {
+        Set<String> found = new TreeSet<>();
+        for (String line : Files.readAllLines(DOCUMENT)) {
+            Matcher method = METHOD.matcher(line);
+            if (method.matches()) {
+                String parameters = method.group(2).replaceAll(" \\w+(?=,|$)", "");
+                String thrown = method.group(3) == null ? "" : method.group(3);
+                found.add(method.group(1) + "(" + parameters + ") throws " + thrown);
+            }
+        }
+        Check.due("methods of the document", found.size(), 23);
+        return found;
+    }
+
     private static String written(Method method) {
-        String parameters = Arrays.stream(method.getParameterTypes())
-            .map(Class::getSimpleName).collect(Collectors.joining(","));
-        String thrown = Arrays.stream(method.getExceptionTypes())
-            .map(type -> " throws " + type.getSimpleName()).collect(Collectors.joining());
-        return method.getReturnType() + " " + method.getName() + "(" + parameters + ")" + thrown;
+        return method.getReturnType() + " " + method.getName() + "(" + listed(method.getParameterTypes())
+            + ") throws " + listed(method.getExceptionTypes());
+    }
+
+    private static String listed(Class<?>[] types) {
+        return Arrays.stream(types).map(Class::getSimpleName).collect(Collectors.joining(", "));
     }
 
     private static void fields(Class<?> face) {
